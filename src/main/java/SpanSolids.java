@@ -124,9 +124,6 @@ public final class SpanSolids {
     }
 
     public int span(int k, int what) {
-        if (k < 0 || k >= told.runCount()) {
-            return 0;
-        }
         if (what == FIRST) {
             return told.firstOf(k);
         }
@@ -138,7 +135,7 @@ public final class SpanSolids {
     }
 
     private Solid find(int s) {
-        return s < 1 || s > solidCount || s > MOST_SOLIDS ? null : solids[s - 1];
+        return s < 1 || s > solidCount ? null : solids[s - 1];
     }
 
     private boolean isFull() {
