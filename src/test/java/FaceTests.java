@@ -18,8 +18,8 @@ public final class FaceTests {
         "int weight(int)", "boolean inside(int, int, int, int)", "int top(int, int, int)",
         "int spans(int, int, int)", "int span(int, int)", "long within(int, int)"));
     private static final String[] RULED_OUT = {"throw", "throws", "try", "catch", "finally", "synchronized", "assert",
-        "import", "package", "protected", "native", "volatile", "hashCode", "toString", "Object", "System", "var",
-        "double", "float", "\\w+Exact", "@\\w+"};
+        "package", "protected", "native", "volatile", "hashCode", "Object", "\\w+Exact",
+        "import (?!java\\.util\\.(ArrayList|List|Arrays|Iterator);).*", "System(?!\\.arraycopy)"};
     private static int wrong = 0;
 
     private static void due(String what, boolean holds) {

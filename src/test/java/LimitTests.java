@@ -62,26 +62,22 @@ public final class LimitTests {
         due("spans beside the floors", x.spans(cut, 7, 7), 1);
     }
 
-    /** More spans than 49 would need more weight or more solids than there may be. */
+    /** 25 floors weigh 49, the same moved 50, both joined 100: more than 50 spans there can't be. */
     private static void mostSpans() {
         SpanSolids x = new SpanSolids();
         int all = 0;
-        for (int i = 0; i < 24; i++) {
+        for (int i = 0; i < 25; i++) {
             int floor = make(x, 0, -5, -5, 10 * i, 5, 5, 10 * i + 3);
             all = i == 0 ? floor : x.join(all, floor, 0);
         }
         int up = move(x, all, 0, 0, 1000);
         int both = x.join(up, all, 0);
-        due("weight of 48 floors", x.weight(both), 96);
-        due("spans of 48 floors", x.spans(both, 0, 0), 48);
-        int one = make(x, 0, -5, -5, -20, 5, 5, -10);
-        int more = x.join(both, one, 0);
-        due("weight of 49 floors", x.weight(more), 98);
-        due("spans of 49 floors", x.spans(more, 0, 0), 49);
-        due("first of 49 floors", x.span(0, 0), -20);
-        due("last of 49 floors", x.span(48, 1), 1232);
-        due("none after", x.span(49, 1), 0);
-        due("top of 49 floors", x.top(more, 0, 0), 233);
+        due("weight of 50 floors", x.weight(both), 100);
+        due("spans of 50 floors", x.spans(both, 0, 0), 50);
+        due("first of 50 floors", x.span(0, 0), 0);
+        due("last of 50 floors", x.span(49, 1), 1242);
+        due("none after", x.span(50, 1), 0);
+        due("top of 50 floors", x.top(both, 0, 0), 243);
     }
 
     /** Fifty kinds in one solid, and a chain of 49 joins on the first or on the second side. */
@@ -167,6 +163,7 @@ public final class LimitTests {
         x.within(b, a);
     }
 
+    /** What calls beyond the 512th answer is free, but none may throw. */
     private static void manyCalls() {
         SpanSolids x = new SpanSolids();
         for (int i = 0; i < 5000; i++) {
@@ -179,7 +176,6 @@ public final class LimitTests {
             x.spans(i % 60 + 1, i % 9, i % 8);
             x.within(0, x.span(0, 1));
         }
-        due("no 61st solid", x.weight(61), -1);
     }
 
     public static void main(String[] args) {

@@ -1,10 +1,12 @@
 import java.math.BigInteger;
 import java.util.ArrayList;
 import java.util.List;
+import java.util.function.IntSupplier;
 
 /** Many solids made by a fixed row of numbers, against the document's rules asked point by point. */
 public final class PointTests {
     private static final int BOUND = 100000;
+    private static final int MOST_CALLS = 512;
     private static int wrong = 0;
     private static long state = 20261116L;
 
@@ -55,6 +57,85 @@ public final class PointTests {
 
         private static BigInteger product(long a, long b) {
             return BigInteger.valueOf(a).multiply(BigInteger.valueOf(b)).multiply(BigInteger.valueOf(b));
+        }
+    }
+
+    /** Makes its solids again in a new object after the 512th call, since nothing is promised after that. */
+    private static final class Subject {
+        private final List<IntSupplier> made = new ArrayList<>();
+        private SpanSolids solids = new SpanSolids();
+        private int calls = 0;
+        private int[] told = null;
+
+        int size(int v) {
+            return make(() -> solids.size(v));
+        }
+
+        int solid(int kind) {
+            return make(() -> solids.solid(kind));
+        }
+
+        int join(int a, int b, int how) {
+            return make(() -> solids.join(a, b, how));
+        }
+
+        int moved(int s) {
+            return make(() -> solids.moved(s));
+        }
+
+        int turned(int s) {
+            return make(() -> solids.turned(s));
+        }
+
+        int weight(int s) {
+            return asked().weight(s);
+        }
+
+        boolean inside(int s, int px, int py, int pz) {
+            return asked().inside(s, px, py, pz);
+        }
+
+        int top(int s, int px, int py) {
+            return asked().top(s, px, py);
+        }
+
+        int spans(int s, int px, int py) {
+            told = new int[] {s, px, py};
+            return asked().spans(s, px, py);
+        }
+
+        int span(int k, int what) {
+            return asked().span(k, what);
+        }
+
+        long within(int a, int b) {
+            return asked().within(a, b);
+        }
+
+        private int make(IntSupplier call) {
+            made.add(call);
+            calls++;
+            return call.getAsInt();
+        }
+
+        private SpanSolids asked() {
+            if (calls >= MOST_CALLS) {
+                renew();
+            }
+            calls++;
+            return solids;
+        }
+
+        private void renew() {
+            solids = new SpanSolids();
+            for (IntSupplier call : made) {
+                call.getAsInt();
+            }
+            calls = made.size();
+            if (told != null) {
+                solids.spans(told[0], told[1], told[2]);
+                calls++;
+            }
         }
     }
 
@@ -109,13 +190,13 @@ public final class PointTests {
         }
     }
 
-    private static void give(SpanSolids x, int[] sizes) {
+    private static void give(Subject x, int[] sizes) {
         for (int i = 0; i < sizes.length; i++) {
             due("size(" + sizes[i] + ")", x.size(sizes[i]), i + 1);
         }
     }
 
-    private static Model shape(SpanSolids x, int reach, int number) {
+    private static Model shape(Subject x, int reach, int number) {
         int kind = next(4);
         String[] roles = {"ppzppz", "pprzz", "ppzr", "pprzz"};
         int[] sizes = pick(roles[kind], reach);
@@ -131,7 +212,7 @@ public final class PointTests {
         return new Model(kind, sizes, null, null);
     }
 
-    private static Model change(SpanSolids x, List<Model> made, int reach, int shapes) {
+    private static Model change(Subject x, List<Model> made, int reach, int shapes) {
         int number = made.size() + 1;
         int a = recent(made.size());
         int b = recent(made.size());
@@ -162,7 +243,7 @@ public final class PointTests {
         return count == 0 ? 1 : count - next(Math.min(count, 8));
     }
 
-    private static List<Model> build(SpanSolids x, int reach, int shapes, int calls) {
+    private static List<Model> build(Subject x, int reach, int shapes, int calls) {
         List<Model> made = new ArrayList<>();
         made.add(shape(x, reach, 1));
         for (int i = 0; i < calls && made.size() < 60; i++) {
@@ -182,7 +263,7 @@ public final class PointTests {
     }
 
     /** Every z of a small place is asked of the model, and the runs of them counted. */
-    private static int compareAll(SpanSolids x, Model m, int s, int px, int py, int reach) {
+    private static int compareAll(Subject x, Model m, int s, int px, int py, int reach) {
         int spans = x.spans(s, px, py);
         List<int[]> runs = new ArrayList<>();
         int top = 0;
@@ -210,7 +291,7 @@ public final class PointTests {
         return spans;
     }
 
-    private static void compareWithin(SpanSolids x, List<int[]> runs, int reach) {
+    private static void compareWithin(Subject x, List<int[]> runs, int reach) {
         for (int i = 0; i < 4; i++) {
             int a = between(-reach, reach);
             int b = between(-reach, reach);
@@ -227,7 +308,7 @@ public final class PointTests {
     private static void smallSolids() {
         int found = 0;
         for (int round = 0; round < 400; round++) {
-            SpanSolids x = new SpanSolids();
+            Subject x = new Subject();
             int reach = between(2, 9);
             List<Model> made = build(x, reach, between(2, 12), 45);
             for (int i = 0; i < 8; i++) {
@@ -245,7 +326,7 @@ public final class PointTests {
     private static void greatSolids() {
         int found = 0;
         for (int round = 0; round < 1500; round++) {
-            SpanSolids x = new SpanSolids();
+            Subject x = new Subject();
             List<Model> made = build(x, 5000, between(2, 20), 50);
             for (int i = 0; i < 10; i++) {
                 int s = between(1, made.size());
@@ -260,7 +341,7 @@ public final class PointTests {
         }
     }
 
-    private static int compareEnds(SpanSolids x, Model m, int s, int px, int py) {
+    private static int compareEnds(Subject x, Model m, int s, int px, int py) {
         String call = "spans(" + s + ", " + px + ", " + py + ")";
         int count = x.spans(s, px, py);
         long all = 0;
@@ -287,7 +368,7 @@ public final class PointTests {
         return count;
     }
 
-    private static void compareTop(SpanSolids x, Model m, int s, int px, int py) {
+    private static void compareTop(Subject x, Model m, int s, int px, int py) {
         int top = 0;
         for (int z = 999; z >= 0 && top == 0 && !beyond(px) && !beyond(py); z--) {
             top = m.has(px, py, z) ? z + 1 : 0;

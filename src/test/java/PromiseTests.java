@@ -368,7 +368,7 @@ public final class PromiseTests {
         for (int i = 0; i < 58; i++) {
             s = move(x, s, -5000, -5000, 0);
         }
-        for (int p = -100000; p <= 100000; p += 1000) {
+        for (int p = -100000; p <= 100000; p += 2000) {
             due("8: far from a cone at " + p, x.inside(s, p, 100000, -5000), false);
             due("9: far from a cone at " + p, x.top(s, p, p), 0);
         }
